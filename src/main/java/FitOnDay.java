@@ -5,13 +5,13 @@ public final class FitOnDay {
     private static final int DAYS = 120, WEEK = 7, MOST_WORKS = 6, MOST_RUNNERS = 5, MOST_RACES = 4;
     private static final int MOST_TESTS = 10, TAPE_LENGTH = 120, MILLION = 1000000;
 
-    private final Works works = new Works();
-    private final Team team = new Team();
-    private final Diary diary = new Diary();
-    private final Races races = new Races();
-    private final Changes changes = new Changes(works, diary);
-    private final Fitness fitness = new Fitness(works, team, diary, races);
-    private final Hurt hurt = new Hurt(fitness, works, diary, races);
+    private final Works works;
+    private final Team team;
+    private final Diary diary;
+    private final Races races;
+    private final Changes changes;
+    private final Fitness fitness;
+    private final Hurt hurt;
     private final Reader reader = new Reader();
     private final Acts acts = new Acts();
     private final Shelves shelves = new Shelves();
@@ -24,6 +24,19 @@ public final class FitOnDay {
     private final int[] gainedElse = new int[MOST_RUNNERS];
 
     public FitOnDay() {
+        // these know one another: made ahead of the object, so that nothing of it is handed out
+        Works itsWorks = new Works();
+        Team itsTeam = new Team();
+        Diary itsDiary = new Diary();
+        Races itsRaces = new Races();
+        Fitness itsFitness = new Fitness(itsWorks, itsTeam, itsDiary, itsRaces);
+        works = itsWorks;
+        team = itsTeam;
+        diary = itsDiary;
+        races = itsRaces;
+        fitness = itsFitness;
+        changes = new Changes(itsWorks, itsDiary);
+        hurt = new Hurt(itsFitness, itsWorks, itsDiary, itsRaces);
     }
 
     // ---- works, runners, the plan
