@@ -1194,11 +1194,16 @@ public final class FitOnDay {
             return kind >= 0 && kind < ABOVE.length ? ABOVE[kind] : -1;
         }
 
+        private static int bodyOf(int kind, int sort) {
+            int place = kind * 4 + sort;
+            return place >= 0 && place < BODIES.length ? BODIES[place] : 0;
+        }
+
         private int ask(int fromKind, int sort, int x, int depth) {
             if (depth > DEEPEST) return 0;
             int kind = fromKind;
             for (int up = 0; up <= KINDS && kind >= 0; up++) {
-                int body = read(BODIES, kind * 4 + sort);
+                int body = bodyOf(kind, sort);
                 if (body != 0) {
                     write(traced, ran, body);
                     ran++;
