@@ -83,6 +83,8 @@ public final class ActsAndShelvesTest {
         told(5, 3, 37, 60, 2, 10, 20, 1, 11);
         told(5, 0, 18, 20, 1);
         told(5, 1, 36, 10, 20, 1);
+        // 2 * (12 + 5 + 3) - (1 ^ 5) = 36
+        C.due("36 ^ 5", ofEachKind().act(5, 3, 12), 33);
         C.says(36, "TOLD: 70 works: super.works(x) * 2.");
         told(6, 0, 32, 70, 1);
         told(6, 1, 64, 10, 70, 1);
@@ -276,6 +278,7 @@ public final class ActsAndShelvesTest {
         C.each("n below 0", n -> x.shift(0, 0, 1, 0, n), -13, -1, -4, MIN);
         C.each("beyond the one", n -> x.shift(1, 2, 0, 0, n), -13, 3, 4, MAX, MAX - 1);
         C.each("beyond the other", n -> x.shift(0, 0, 1, 2, n), -13, 3, 4, MAX, MAX - 1);
+        C.each("beyond both", n -> x.shift(0, 1, 1, 1, n), -13, 4, 6, MAX, MAX - 1);
         C.due("one beyond", x.shift(0, 2, 0, 0, 5), -13);
         C.due("one beyond", x.shift(0, 0, 0, 2, 5), -13);
         C.says(42, "-13 (with n 0, too, if i or j is above how many there are).");

@@ -95,6 +95,45 @@ public final class FitnessTest {
         C.due("years to day 0", x.years(0, 1, 501), -10000);
     }
 
+    private static void manyDays() {
+        FitOnDay x = new FitOnDay();
+        x.work(8100);
+        for (int r = 0; r < 5; r++) x.runner(2001 + 1001 * r, 1000);
+        x.shape(1, 70, 119);
+        C.says(9, "the sum of POINTS of WORKS of all DAYS to that one");
+        for (int r = 0; r < 5; r++) {
+            int strong = 0;
+            int tired = 0;
+            for (int d = 0; d < 120; d++) {
+                strong += 10 * left(1 + r, d);
+                tired += 8 * left(2 + r, d);
+                if (d > 5 && d < 115) continue;
+                C.due("strong", x.fit(1000 * r + d, 1), strong);
+                C.due("tired", x.fit(1000 * r + d, 2), tired);
+                C.due("fit", x.fit(1000 * r + d, 0), strong - tired);
+            }
+        }
+    }
+
+    /** Runners who differ, on the first days: work 1 (8 and 10) is worth -3, -1, 1, 3, 5 to them. */
+    private static void runnersOnFirstDays() {
+        FitOnDay x = new FitOnDay();
+        x.work(8100);
+        for (int r = 0; r < 5; r++) x.runner(500500, 500 + 200 * r);
+        for (int d = 0; d < 9; d++) x.plan(d, 1);
+        C.says(17, "LED of a DAY (counting or not).");
+        for (int r = 0; r < 5; r++) C.each("led", rd -> x.led(rd), r < 2 ? NOT : 0, 1000 * r);
+        for (int r = 0; r < 5; r++) C.each("led", rd -> x.led(rd), r < 2 ? NOT : 4, 1000 * r + 4);
+        C.says(18, "TAPER of those from a DAY on");
+        x.counts(0, 1);
+        for (int r = 0; r < 5; r++) C.due("by how much", x.taper(1000 * r, 1), r == 0 ? 3000 : r == 1 ? 1000 : 0);
+        for (int r = 0; r < 5; r++) C.due("the day", x.taper(1000 * r, 0), r < 2 ? 0 : 1);
+        for (int r = 0; r < 5; r++) C.due("told behind it", x.taper(1000 * r + 100, 0), 100);
+        for (int r = 0; r < 5; r++) C.due("told behind it", x.taper(1000 * r + 2, 0), 2);
+        C.says(13, "WORTH of a WORK on a DAY:");
+        for (int r = 0; r < 5; r++) C.due("worth", x.worth(1000 * r, 1), 2000 * r - 3000);
+    }
+
     private static void points() {
         FitOnDay x = made();
         C.says(10, "STRENGTHENS times GIFT / 1000 (cut) times LEFT of STRENGTH, less TIRES times LEFT of TIRED (in thousandths).");
@@ -216,6 +255,7 @@ public final class FitnessTest {
         C.due("day 7 with 3", x.best(0, 3, 7), 3);
         C.says(15, "(above 0; of like ones the first), rest else: GAINED; the WORK of a DAY.");
         C.due("day 10", x.best(0, 7, 10), 0);
+        C.due("day 0 with 1", x.best(0, 1, 0), 0);
         C.due("day 119", x.best(0, 7, 119), 0);
         C.says(15, "BEST WORKS with m: GAINED (day -1), the WORK of a DAY.");
         C.due("the plan stays", x.count(2), 0);
@@ -223,6 +263,12 @@ public final class FitnessTest {
         C.due("whatever the plan is", x.best(0, 1, 9), 3);
         C.due("day 0", x.best(0, 7, 0), 3);
         C.due("another runner", x.best(1, 1, -1), x.worth(1009, 3) + x.worth(1006, 3));
+        x.forget();
+        x.counts(119, 1);
+        int all = 0;
+        for (int d = 0; d < 120; d++) all += x.worth(d, 3);
+        C.due("the last week has one day, m 7", x.best(0, 7, -1), all);
+        C.due("the last week has one day, m 1", x.best(0, 1, -1), x.worth(119, 3) + x.worth(118, 3) + x.worth(111, 3));
         C.says(15, "VOID: BAD.");
         C.each("day", day -> x.best(0, 1, day), VOID, -2, 120, MIN, MAX);
         C.each("runner", runner -> x.best(runner, 1, 0), VOID, -1, 2, 5, MIN, MAX);
@@ -414,6 +460,8 @@ public final class FitnessTest {
     public static void main(String[] args) {
         fit();
         runnersAndDays();
+        manyDays();
+        runnersOnFirstDays();
         points();
         counting();
         worths();

@@ -57,6 +57,10 @@ public final class GroupsTest {
         C.due("41 by 0, 22 by 1", x.who(-1), 1);
         C.due("22 of 63", x.who(1), 1000 - 22000 / 63);
         C.each("no such one", x::who, BAD, -2, 2, MIN, MAX);
+        // 20 * 900 - 10 * 600: 12
+        x.runner(400100, 1000);
+        C.due("41, 22 and 24", x.who(-1), 1);
+        C.due("24 of 87", x.who(2), 1000 - 24000 / 87);
         C.says(27, "(of like ones the first).");
         FitOnDay y = new FitOnDay();
         y.test(0, 0);
@@ -77,6 +81,11 @@ public final class GroupsTest {
         z.work(1000);
         z.plan(0, 1);
         z.test(1, 0);
+        z.mend(1, 0, 2);
+        // -1000 and -800
+        C.due("1 of 1", z.who(0), 0);
+        C.due("0 of 1", z.who(1), 1000);
+        z.mend(1, 0, 1);
         // -500 and -400 are 0, cut
         C.due("below 0: toward 0", z.who(0), 1000);
         z.mend(1, 0, 3);
@@ -129,6 +138,17 @@ public final class GroupsTest {
         y.counts(1, 1);
         // a day ahead: runner 0 has 30 * 100 - 10 * 500 = -2000, runner 1 30 * 500 - 10 * 100
         C.due("not for the one that loses", y.group(0, 2), 0);
+        FitOnDay weak = new FitOnDay();
+        weak.runner(100100, 500);
+        weak.runner(999900, 1500);
+        weak.work(400);
+        weak.work(39990);
+        weak.counts(1, 1);
+        weak.plan(1, 1);
+        // on day 1: 20000 and 60000; a day ahead: 18000 and 6000 by work 1, 9000 and some 14700 by work 2
+        C.due("for the one that has least", weak.group(0, 2), 1);
+        weak.plan(1, 0);
+        C.due("alone the day gives most by work 2", weak.group(0, 2), 2);
         C.says(28, "(THE PLAN else as it is;");
         y.plan(1, 1);
         C.due("on the day for both", y.group(1, 2), 1);
@@ -256,7 +276,7 @@ public final class GroupsTest {
         C.due("e 99", x.lines(0, 199, 0), 0);
         C.due("work 2, e 99", x.lines(0, 299, 0), 0);
         C.due("work 2, e 9", x.lines(0, 209, 0), x.worth(1, 2));
-        C.due("rest", x.lines(0, 50, 0), 0);
+        C.each("rest", we -> x.lines(0, we, 0), 0, 0, 50, 99);
         C.says(31, "LOSES: BEST WORKS with 3 less that.");
         C.due("some", x.lines(0, 100, 1), x.best(0, 3, -1) - all);
         C.due("all", x.lines(0, 199, 1), x.best(0, 3, -1));
@@ -275,7 +295,19 @@ public final class GroupsTest {
         x.counts(119, 1);
         // 119 is the first of its week: 117 is the last of the lines
         C.due("to day 119", x.lines(0, 100, 0), x.lines(0, 102, 0));
+        x.runner(999001, 1000);
+        C.due("e 99: to day 20", x.lines(2, 199, 0), ofLines(x, 20));
+        C.due("e 98: to day 21", x.lines(2, 198, 0), ofLines(x, 21));
+        C.due("e 97: to day 22", x.lines(2, 197, 0), ofLines(x, 22));
+        C.holds("that is one more", ofLines(x, 22) > ofLines(x, 21) && ofLines(x, 21) == ofLines(x, 20));
         C.due("to day 116", x.lines(0, 100, 0) - x.lines(0, 103, 0), x.worth(117, 1));
+    }
+
+    /** Runner 2's worths of work 1 on the lines' days to one. */
+    private static int ofLines(FitOnDay x, int last) {
+        int all = 0;
+        for (int d = 0; d <= last; d++) if (d % 7 == 1 || d % 7 == 3 || d % 7 == 5) all += x.worth(2000 + d, 1);
+        return all;
     }
 
     private static void years() {
@@ -296,6 +328,11 @@ public final class GroupsTest {
         C.due("once: each 15th day of 120", x.years(0, 1, 10), 8);
         C.due("ten times", x.years(0, 1, 100), 80);
         C.due("fifty times", x.years(0, 1, 500), 400);
+        Check.take(x, 1, "d=119?1000;0");
+        C.due("the last day", x.years(0, 1, 500), 50);
+        Check.take(x, 1, "d=0?1000;0");
+        C.due("the first day", x.years(0, 1, 500), 50);
+        Check.take(x, 1, "1000");
         C.says(32, "LOST days of rest then (no draws in them):");
         x.lost(60);
         C.due("each 61st", x.years(0, 1, 10), 2);

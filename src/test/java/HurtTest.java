@@ -33,6 +33,15 @@ public final class HurtTest {
         C.due("s 1", x.risk(1, 0), 251);
         C.due("s 2: 2500 and 30000, cut", x.risk(2, 0), 321);
         C.due("w 0 on a day of rest", x.risk(119, 0), 0);
+        FitOnDay y = new FitOnDay();
+        y.runner(1001, 1000);
+        y.work(1010);
+        y.plan(0, 1);
+        Check.take(y, 1, "t*10+s");
+        C.due("1000 are 1", y.risk(0, 0), 11);
+        C.due("999 are 0, cut", y.risk(1, 0), 0);
+        y.plan(1, 1);
+        C.due("1999 are 1, cut", y.risk(1, 0), 11);
         C.says(21, "j how much TIRES of the DAY are above the mean (cut) of TIRES of up to 7 DAYS ahead (0: none ahead),");
         Check.take(x, 1, "j+100");
         C.due("none ahead", x.risk(0, 0), 100);
@@ -94,6 +103,9 @@ public final class HurtTest {
         C.due("on 2", x.risk(2, 2), 125);
         C.due("on 3", x.risk(3, 2), 375);
         C.due("on 4", x.risk(4, 2), 0);
+        Check.take(x, 1, "d<2?333;999");
+        // whole ahead of 2: 444889
+        C.due("444444, not 444 and 999 of each", x.risk(2, 2), 444);
         C.says(21, "RISK of a DAY by THE PLAN: thousandths");
         Check.take(x, 1, "w*100");
         C.due("rest", x.risk(5, 0), 0);
@@ -102,9 +114,10 @@ public final class HurtTest {
         C.due("the day ahead", x.risk(4, 0), 0);
         C.says(21, "RISK (what 0), WHOLE till (1), HURT ON (2, thousandths, cut).");
         Check.take(x, 1, "333");
-        // 667000, 444889, 296740 (cut), 197925 (cut); by whole thousandths it would be 667, 444, 296, 197
+        // 667000, 444889, 296740 (cut), 197925 (cut), 132015 (cut); by whole thousandths it would be 667, 444, 296, 197, 131
         C.due("risk", x.risk(3, 0), 333);
         C.due("whole", x.risk(3, 1), 197);
+        C.due("whole", x.risk(4, 1), 132);
         C.due("296740 * 333 / 1000 = 98814", x.risk(3, 2), 98);
         Check.take(x, 1, "1");
         // 999000, 998001, 997002 (cut)
@@ -116,6 +129,27 @@ public final class HurtTest {
         C.each("rd", rd -> x.risk(rd, 0), BAD, NO_RUNNERS_DAYS);
         C.each("rd", rd -> x.risk(rd, 2), BAD, NO_RUNNERS_DAYS);
         C.due("no runner yet", new FitOnDay().risk(0, 0), BAD);
+    }
+
+    private static void runners() {
+        FitOnDay x = new FitOnDay();
+        for (int r = 0; r < 5; r++) x.runner(500500, 500 + 200 * r);
+        x.work(100);
+        x.work(200);
+        x.plan(0, 1);
+        x.plan(119, 2);
+        C.says(21, "RISK of a DAY");
+        Check.take(x, 1, "d+1");
+        for (int r = 0; r < 5; r++) C.each("the day", rd -> x.risk(rd, 0) - rd % 1000, 1, 1000 * r, 1000 * r + 3, 1000 * r + 119);
+        Check.take(x, 1, "s*10");
+        // strong 5, 7, 9, 11, 13 on day 0
+        for (int r = 0; r < 5; r++) C.due("the runner: risk", x.risk(1000 * r, 0), 50 + 20 * r);
+        for (int r = 0; r < 5; r++) C.due("the runner: whole", x.risk(1000 * r, 1), 950 - 20 * r);
+        for (int r = 0; r < 5; r++) C.due("the runner: hurt", x.risk(1000 * r, 2), 50 + 20 * r);
+        for (int r = 0; r < 5; r++) C.due("the last day", x.risk(1000 * r + 119, 0), 100 + 40 * r);
+        C.says(23, "MEAN FIT on a DAY");
+        for (int r = 0; r < 5; r++) C.due("day 0", x.mean(1000 * r), 5000 + 2000 * r);
+        for (int r = 0; r < 5; r++) C.due("the last day", x.mean(1000 * r + 119), 10000 + 4000 * r);
     }
 
     private static void lost() {
@@ -305,6 +339,17 @@ public final class HurtTest {
         x.plan(2, 0);
         C.due("10 and 20, two days on, cut", x.feel(0, 2002), 1);
         C.due("work 1", x.of(2), 1);
+        FitOnDay y = new FitOnDay();
+        y.runner(500001, 1000);
+        y.work(2010);
+        y.plan(0, 1);
+        Check.take(y, 3, "t=1&s=0");
+        C.due("1000 are 1, 999 are 0", y.feel(0, 1001), 1);
+        y.mend(1, 0, 1);
+        Check.take(y, 3, "t=0");
+        C.due("500 are 0", y.feel(0, 1001), 1);
+        y.runner(1001, 1000);
+        C.due("999 are 0", y.feel(1, 1001), 1);
         C.says(25, "w the WORK of the day ahead;");
         Check.take(x, 3, "w=0");
         C.due("one of two", x.feel(0, 9), 5);
@@ -328,10 +373,11 @@ public final class HurtTest {
         C.due("2 on day 0", x.of(0), 2);
         C.due("2 on day 1", x.of(1), 2);
         Check.take(x, 1, "l+j+100");
-        x.plan(0, 1);
+        x.plan(0, 2);
         x.plan(1, 1);
-        C.due("a law has l and j", x.risk(1, 0), 100 + 3);
-        C.due("by feel they are 0 still", x.feel(0, 1), 2);
+        C.due("a law has l and j", x.risk(1, 0), 100 + 3 - 20);
+        C.due("by feel they are 0 still", x.feel(0, 0), 1);
+        C.due("2 on day 0", x.of(0), 2);
         C.says(25, "d, g as told)");
         x.counts(10, 1);
         Check.take(x, 3, "g=3|d=9|g=99");
@@ -379,6 +425,7 @@ public final class HurtTest {
     public static void main(String[] args) {
         names();
         risks();
+        runners();
         lost();
         means();
         meansAreLong();

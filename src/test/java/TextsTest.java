@@ -43,6 +43,10 @@ public final class TextsTest {
         C.due("the last four", x.feed(4, '1' | '+' << 8 | '3' << 16 | '1' << 24), 120);
         C.due("a text of 120 bytes", x.text(1), 1);
         C.due("59 ones and 31", x.risk(0, 0), 59 + 31);
+        x.feed(4, '!' | '0' << 8 | '+' << 16 | '1' << 24);
+        for (int i = 2; i <= 30; i++) C.due("four", x.feed(4, '+' | '1' << 8 | '+' << 16 | '1' << 24), 4 * i);
+        C.due("a text of 120 bytes, each a sign of its own", x.text(1), 1);
+        C.due("!0 and 59 ones", x.risk(0, 0), 60);
         for (int i = 1; i <= 30; i++) x.feed(4, '1' | '+' << 8 | '1' << 16 | '+' << 24);
         C.due("full: taken as what is not there", x.text(0), BAD);
         C.due("still full", x.feed(1, 49), FULL);
@@ -107,7 +111,9 @@ public final class TextsTest {
         goesOn("1;", DIGITS + NAMES + OPENING);
         C.says(20, "LINE: E, or E ? E (what counts if the first is not 0).");
         faults("?", 0, "1?", 2, "1?2?3", 3, "1?2;3?4", -1, "1?2;3?4?5", 7, "(1?2)", 2, "1?;2", 2, "(1;2)", 2);
+        faults("1|2?3", -1, "1&2?3|4", -1, "1<2?3<4", -1, "1+2?-3", -1, "!1?!2", -1);
         goesOn("t", JOINING + "?;");
+        goesOn("t|s", JOINING + "?;");
         goesOn("t?s", JOINING + ";");
         goesOn("t?", DIGITS + NAMES + OPENING);
         goesOn("t?s;w", JOINING + "?;");
@@ -219,6 +225,7 @@ public final class TextsTest {
         C.says(20, "all is worked out.");
         gives("1|5/0", 1, "0&5/0", 0, "0&1/0|6>5", 1, "1?2;5/0", 2);
         C.says(20, "(what counts if the first is not 0)");
+        gives("0|1?8", 8, "0|0?8;9", 9, "2>1?8", 8, "1&0|1?8", 8, "!0?!0", 1);
         gives("1?8", 8, "-1?8", 8, "2?0", 0, "2?0;9", 0, "d=1?50;60", 50, "d=2?50;60", 60);
         C.says(20, "The first LINE without a first E, or whose first E is not 0, counts; none: 0.");
         gives("0?8", 0, "0?8;9", 9, "0?8;0?7;6", 6, "2?8;1", 8, "1;2", 1, "0;2", 0, "0?8;0?7", 0, "0?8;1?7;6", 7, "0?8;5;1?7", 5, "0?1;0?2;0?3;0?4;5?6", 6);
