@@ -2,6 +2,8 @@ public final class FitOnDay {
     public static final int BAD = -1, NOT = -2, FULL = -3, STATE = -5, VOID = -2000000000;
 
     private static final int NOTHING_THERE = -11, OTHER_KIND = -12, NO_PLACE = -13, SIZE_BELOW_0 = -14;
+    // written out, as LANGUAGE.md lists functions of Long, but none of its constants
+    private static final long LEAST_LONG = -9223372036854775808L;
     private static final int DAYS = 120, WEEK = 7, MOST_WORKS = 6, MOST_RUNNERS = 5, MOST_RACES = 4;
     private static final int MOST_TESTS = 10, TAPE_LENGTH = 120, MILLION = 1000000;
 
@@ -344,7 +346,7 @@ public final class FitOnDay {
     }
 
     public long element(int shelf, int i) {
-        return shelves.refusalOf(shelf, i) != 0 ? Long.MIN_VALUE : shelves.elementAt(shelf, i);
+        return shelves.refusalOf(shelf, i) != 0 ? LEAST_LONG : shelves.elementAt(shelf, i);
     }
 
     public int shift(int shelf, int i, int other, int j, int n) {

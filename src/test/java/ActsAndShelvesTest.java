@@ -191,6 +191,52 @@ public final class ActsAndShelvesTest {
         C.due("as it was", x.element(3, 59), 1);
     }
 
+    private static FitOnDay withSixFull() {
+        FitOnDay x = new FitOnDay();
+        x.body(3);
+        for (int shelf = 0; shelf < 6; shelf++) {
+            x.row(shelf, 3, 60);
+            x.put(shelf, 0, 10 * shelf + 1);
+            x.put(shelf, 59, 10 * shelf + 2);
+        }
+        return x;
+    }
+
+    private static void othersStay(FitOnDay x, int shelf) {
+        for (int other = 0; other < 6; other++) {
+            if (other == shelf) continue;
+            C.due("the first of " + other, x.element(other, 0), 10 * other + 1);
+            C.due("the last of " + other, x.element(other, 59), 10 * other + 2);
+        }
+    }
+
+    private static void shelvesApart() {
+        C.says(39, "A SHELF holds a ROW: 1.");
+        for (int shelf = 0; shelf < 6; shelf++) {
+            FitOnDay x = withSixFull();
+            C.due("a new row", x.row(shelf, 0, 60), 1);
+            othersStay(x, shelf);
+            C.due("none in it", x.row(shelf, 0, 0), 1);
+            othersStay(x, shelf);
+        }
+        C.says(38, "A SHELF holds nothing (body -1), or a PLAN: 1.");
+        for (int shelf = 0; shelf < 6; shelf++) {
+            FitOnDay x = withSixFull();
+            C.due("a plan", x.keep(shelf, 0), 1);
+            othersStay(x, shelf);
+            C.due("nothing", x.keep(shelf, -1), 1);
+            othersStay(x, shelf);
+        }
+        C.says(42, "n elements of a ROW from i on come to another one (or the same) from j on,");
+        for (int shelf = 0; shelf < 6; shelf++) {
+            FitOnDay x = withSixFull();
+            C.due("all", x.shift((shelf + 1) % 6, 0, shelf, 0, 60), 60);
+            C.due("up", x.shift(shelf, 0, shelf, 1, 59), 59);
+            C.due("down", x.shift(shelf, 1, shelf, 0, 59), 59);
+            othersStay(x, shelf);
+        }
+    }
+
     private static void elements() {
         FitOnDay x = new FitOnDay();
         x.body(3);
@@ -417,6 +463,7 @@ public final class ActsAndShelvesTest {
         traces();
         keeps();
         rows();
+        shelvesApart();
         elements();
         shiftsRefused();
         shifts();

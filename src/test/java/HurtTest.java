@@ -278,6 +278,8 @@ public final class HurtTest {
         C.due("the first", x.judge(0), 7);
         Check.take(x, 2, "d=119");
         C.due("the last day", x.judge(0), 119);
+        Check.take(x, 2, "d>119");
+        C.due("no day is behind the last one", x.judge(0), NOT);
         Check.take(x, 2, "1");
         C.due("day 0", x.judge(0), 0);
         Check.take(x, 2, "d=60?0-1");

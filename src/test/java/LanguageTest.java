@@ -1,4 +1,6 @@
 import java.io.IOException;
+import java.lang.reflect.Method;
+import java.lang.reflect.Modifier;
 import java.nio.file.Files;
 import java.nio.file.Path;
 import java.util.ArrayList;
@@ -55,6 +57,23 @@ public final class LanguageTest {
         C.holds("some twelve classes: " + classes, classes >= 2 && classes <= 12);
     }
 
+    private static void namesOfTheirOwn(List<String> lines) {
+        Set<String> face = new HashSet<>();
+        for (Method method : FitOnDay.class.getDeclaredMethods()) {
+            if (Modifier.isPublic(method.getModifiers())) face.add(method.getName());
+        }
+        for (String line : lines) {
+            Matcher method = METHOD.matcher(line);
+            if (!method.find() || line.startsWith("    public ")) continue;
+            C.holds(method.group(2) + " is no name of the face", !face.contains(method.group(2)));
+        }
+    }
+
+    private static void library(String code) {
+        Matcher call = Pattern.compile("\\b(Math|Integer|Long|Arrays|System|List|String)\\.(\\w+)").matcher(code);
+        while (call.find()) C.holds(call.group() + " is told", Set.of("Math.max", "Math.min", "Math.abs").contains(call.group()));
+    }
+
     private static void methods(List<String> lines) {
         for (int i = 0; i < lines.size(); i++) {
             Matcher method = METHOD.matcher(lines.get(i));
@@ -93,6 +112,8 @@ public final class LanguageTest {
         }
         noneOf(code.toString());
         lines(lines);
+        library(code.toString());
+        namesOfTheirOwn(lines);
         methods(lines);
         C.holds("methods are found", calls.size() > 100);
         for (String method : new ArrayList<>(calls.keySet())) {
